@@ -5,7 +5,7 @@
  */
 public final class AnyCallsTest {
     private static final Checks c = new Checks();
-    private static final int RUNS = 150;
+    private static final int RUNS = 100;
     private static final int CALLS = 300;
     private static final int KERNEL_CALLS = 16;
     private static final int LIBRARY_CALLS = 4;

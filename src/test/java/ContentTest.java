@@ -32,6 +32,11 @@ public final class ContentTest {
         c.due(103, () -> k.write(2, 1, a, 3, Integer.MIN_VALUE));
         c.due(Integer.MIN_VALUE, () -> k.write(2, 1, a, 3, Integer.MAX_VALUE));
         c.due(Integer.MAX_VALUE, () -> k.read(2, 1, a, 3));
+        LabelKernel last = new LabelKernel();
+        Checks.useNumbers(last, 59);
+        c.due(60, () -> last.segment(2, 1, 0, 8));
+        c.due(0, () -> last.write(2, 1, 60, 7, 9));
+        c.due(9, () -> last.read(2, 1, 60, 7));
     }
 
     private static void cellsLookAtNumbersAndObjects() {

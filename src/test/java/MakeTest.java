@@ -70,6 +70,7 @@ public final class MakeTest {
             }
             c.refused(Checks.BAD, () -> k.gate(99, 1, 0, bad, 0));
             c.refused(Checks.BAD, () -> k.thread(99, 1, 0, bad));
+            c.refused(Checks.BAD, () -> k.thread(99, 1, bad, 0));
         }
         c.refused(Checks.BAD, () -> k.container(99, 1, starred, 1));
         c.refused(Checks.BAD, () -> k.segment(99, 1, starred, 1));

@@ -6,6 +6,7 @@ public final class SnapshotTest {
         crashWithoutSnapshot();
         crashBringsAllBack();
         theLastSnapshotCounts();
+        numbersOfOtherKindsAfterACrash();
         c.end();
     }
 
@@ -79,5 +80,24 @@ public final class SnapshotTest {
         c.due(1, () -> k.snapshot());
         c.due(1, () -> k.crash());
         c.refused(Checks.MISSING, () -> k.object(3, 0));
+    }
+
+    private static void numbersOfOtherKindsAfterACrash() {
+        LabelKernel k = new LabelKernel();
+        c.due(3, () -> k.segment(2, 1, 0, 8));
+        k.write(2, 1, 3, 1, 5);
+        k.crash();
+        c.due(3, () -> k.thread(2, 1, 0, 0));
+        c.due(0, () -> k.object(3, 6));
+        c.due(0, () -> k.object(3, 5));
+        k.crash();
+        c.due(3, () -> k.container(2, 1, 0, 10));
+        c.due(-1, () -> k.object(3, 5));
+        c.due(0, () -> k.object(3, 6));
+        c.due(1, () -> k.object(3, 3));
+        k.crash();
+        c.due(3, () -> k.segment(2, 1, 0, 2));
+        c.due(0, () -> k.read(2, 1, 3, 1));
+        c.due(2, () -> k.object(3, 6));
     }
 }

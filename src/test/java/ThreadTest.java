@@ -176,6 +176,14 @@ public final class ThreadTest {
         c.due(5, () -> k.enter(t, 1, g, own, most));
         c.due(most, () -> k.object(t, 5));
         c.due(own, () -> k.object(t, 1));
+
+        LabelKernel same = new LabelKernel();
+        int gate = same.gate(2, 1, 0, 1, 6);
+        for (int category = 0; category < 8; category++) {
+            int above = same.label(1, category, 3);
+            c.refused(Checks.FORBIDDEN, () -> same.enter(2, 1, gate, 0, above));
+        }
+        c.due(6, () -> same.enter(2, 1, gate, 0, 1));
     }
 
     private static void enteringAGateThatIsAboveTheThread() {
