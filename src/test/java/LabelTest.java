@@ -150,6 +150,12 @@ public final class LabelTest {
         c.due(0, () -> two.category(2));
         c.due(58, () -> two.object(2, 1));
         c.due(59, () -> two.object(2, 5));
+        LabelKernel half = new LabelKernel();
+        half.label(1, 0, 3);
+        Checks.fillLabels(half, 60);
+        c.refused(Checks.FULL, () -> half.category(2));
+        c.due(0, () -> half.object(2, 1));
+        c.due(0, () -> half.count(2));
         LabelKernel none = new LabelKernel();
         none.label(1, 0, 3);
         none.label(0, 0, 4);
