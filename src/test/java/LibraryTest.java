@@ -8,6 +8,7 @@ public final class LibraryTest {
         userLeavesWhatItDid();
         fourUsers();
         loginEntersTheGate();
+        passwordsAreAnyNumber();
         loginLooksInOrder();
         loginLeavesItsLabels();
         filesAreMadeAndReplaced();
@@ -176,6 +177,24 @@ public final class LibraryTest {
         // Nor one that is below the gate's label in another category.
         int down = k.thread(2, 1, k.label(0, 3, 0), 1);
         c.refused(Checks.FORBIDDEN, () -> k.login(down, 0, 11));
+    }
+
+    private static void passwordsAreAnyNumber() {
+        for (int password : new int[] {0, -1, Integer.MAX_VALUE, Integer.MIN_VALUE}) {
+            LabelKernel k = new LabelKernel();
+            k.user(2, 3, password);
+            int plain = k.thread(2, 1, 0, 1);
+            c.refused(Checks.FORBIDDEN, () -> k.login(plain, 3, password + 1));
+            c.refused(Checks.FORBIDDEN, () -> k.login(plain, 3, password - 1));
+            c.refused(Checks.FORBIDDEN, () -> k.login(plain, 3, ~password));
+            c.due(0, () -> k.object(plain, 1));
+            c.due(3, () -> k.login(plain, 3, password));
+            // A user made anew after a crash has the new password alone.
+            k.crash();
+            k.user(2, 3, password + 1);
+            c.refused(Checks.FORBIDDEN, () -> k.login(2, 3, password));
+            c.due(3, () -> k.login(2, 3, password + 1));
+        }
     }
 
     private static void loginLooksInOrder() {

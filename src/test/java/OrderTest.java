@@ -62,6 +62,7 @@ public final class OrderTest {
         enter();
         object();
         in();
+        numbersOutOfRange();
         c.end();
     }
 
@@ -306,5 +307,27 @@ public final class OrderTest {
                 Looks.args(Looks.good(ROOT), Looks.good(LOW_BOX), Looks.fails(2, 0), Looks.fails(2, GONE),
                         Looks.fails(2, 61), Looks.fails(3, T), Looks.fails(3, SEGMENT), Looks.fails(3, GATE)),
                 Looks.args(Looks.good(0), Looks.good(1), Looks.fails(4, -1), Looks.fails(4, 60)));
+    }
+
+    /** Promise 26: an object's number out of 1 .. 60 is one that is not there, in each place of each call. */
+    private static void numbersOutOfRange() {
+        for (int o : new int[] {Integer.MIN_VALUE, -60, -1, 0, 61, 62, Integer.MAX_VALUE}) {
+            LabelKernel k = world();
+            Checks.Call[] calls = {() -> k.category(o), () -> k.become(o, 0), () -> k.lower(o, 0),
+                () -> k.container(o, BOX, 0, 1), () -> k.container(T, o, 0, 1), () -> k.segment(o, BOX, 0, 1),
+                () -> k.segment(T, o, 0, 1), () -> k.gate(o, BOX, 0, 1, 0), () -> k.gate(T, o, 0, 1, 0),
+                () -> k.thread(o, BOX, 0, 1), () -> k.thread(T, o, 0, 1), () -> k.read(o, BOX, SEGMENT, 0),
+                () -> k.read(T, o, SEGMENT, 0), () -> k.read(T, BOX, o, 0), () -> k.write(o, BOX, SEGMENT, 0, 1),
+                () -> k.write(T, o, SEGMENT, 0, 1), () -> k.write(T, BOX, o, 0, 1), () -> k.move(o, BOX, SEGMENT, 0),
+                () -> k.move(T, o, SEGMENT, 0), () -> k.move(T, BOX, o, 0), () -> k.drop(o, BOX, SEGMENT),
+                () -> k.drop(T, o, SEGMENT), () -> k.drop(T, BOX, o), () -> k.enter(o, BOX, GATE, 0, 1),
+                () -> k.enter(T, o, GATE, 0, 1), () -> k.enter(T, BOX, o, 0, 1), () -> k.user(o, 0, 0),
+                () -> k.object(o, 0), () -> k.in(o, 0)};
+            String before = Dump.brief(k);
+            for (Checks.Call call : calls) {
+                c.refused(Checks.MISSING, call);
+            }
+            c.due(before, Dump.brief(k));
+        }
     }
 }
