@@ -80,10 +80,13 @@ final class Checks {
         }
     }
 
-    /** Segments of one cell in object 1, dropped at once, until the last number made is the one named. */
+    /**
+     * Segments of one cell in object 1, dropped at once, until the last number made is the one named. No number comes
+     * anew, so sixty are enough; the bound lets a test fail, not hang, where that is broken.
+     */
     static void useNumbers(LabelKernel k, int last) {
         int made = 0;
-        while (made < last) {
+        for (int i = 0; i < 60 && made < last; i++) {
             made = k.segment(2, 1, 0, 1);
             k.drop(2, 1, made);
         }
